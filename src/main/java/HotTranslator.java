@@ -675,7 +675,6 @@ public final class HotTranslator {
         void makeFrom(Guest guest, int newNumber, int newStart) {
             number = newNumber;
             start = newStart;
-            length = 0;
             bytes = 0;
             entries = 0;
             takenLink = NONE;
@@ -916,17 +915,10 @@ public final class HotTranslator {
             }
         }
 
+        /** Forgets all blocks, uncounted, for a trial. */
         void clear(int newSize) {
-            for (int i = 0; i < MOST_BLOCKS; i++) {
-                rows[i].number = NONE;
-            }
             count = 0;
             size = newSize;
-            madeCount = 0;
-            madeLength = 0;
-            discardedCount = 0;
-            longCount = 0;
-            lastStamp = 0;
         }
 
         boolean isSoundFor(Guest guest) {
@@ -977,10 +969,6 @@ public final class HotTranslator {
             guest.copyFrom(other.guest);
             cache.clear(other.cache.size);
             hot = other.hot;
-            lookUpCount = 0;
-            chainedCount = 0;
-            sideExitCount = 0;
-            skippedCount = 0;
         }
 
         /** Each turn makes a step or ends in a fault, so that there are not more turns than steps. */

@@ -458,6 +458,11 @@ public final class TranslatorTest {
         x.setRegister(3, 100);
         x.run(9);
         CHECK.due("no link behind a return", counts(x) + "; " + told(x, 0), "2 2 2 0 0 0 0; 0 1 1 1 - - 0");
+        HotTranslator last = new HotTranslator();
+        last.poke(255, Code.RETURN);
+        last.goTo(255);
+        last.run(9);
+        CHECK.due("no link behind a return at 255", counts(last) + "; " + told(last, 0), "2 2 2 0 0 0 0; 255 1 1 1 - - 0");
     }
 
     private static void linksAndRuns() {
@@ -759,15 +764,19 @@ public final class TranslatorTest {
         x.setCache(4);
         x.run(5);
         CHECK.due("four parts", x.partsOf(0), 4);
+        x.setCache(5);
+        x.goTo(100);
+        x.run(1);
         x.poke(100, PLAIN);
-        CHECK.due("a poke elsewhere", x.partsOf(0), 4);
+        CHECK.due("a poke to another block", counts(x) + " " + x.partsOf(0), "5 4 6 0 1 0 1 4");
+        x.setCache(4);
         x.poke(31, x.peek(31));
-        CHECK.due("a poke to the last part", counts(x) + " " + x.partsOf(0), "4 3 5 0 1 0 1 0");
+        CHECK.due("a poke to the last part", counts(x) + " " + x.partsOf(0), "5 3 6 0 1 0 2 0");
         x.goTo(0);
         x.run(1);
-        CHECK.due("begins another one", counts(x) + " " + x.partsOf(0), "4 3 6 0 2 0 1 3");
+        CHECK.due("begins another one", counts(x) + " " + x.partsOf(0), "5 3 7 0 2 0 2 3");
         x.setCache(2);
-        CHECK.due("its head goes", counts(x) + " " + x.partsOf(1) + " " + x.partsOf(2), "4 2 6 0 2 0 2 0 0");
+        CHECK.due("its head goes", counts(x) + " " + x.partsOf(1) + " " + x.partsOf(2), "5 2 7 0 2 0 3 0 0");
         HotTranslator later = ring(3);
         later.run(5);
         later.goTo(10);

@@ -997,12 +997,12 @@ public final class HotTranslator {
 
         /** Enters the block at the guest's place, behind an interrupt that is due. */
         private Block enterNext(boolean isLongTier) {
-            // the guard looks ahead of the interrupt's own write, which may end the long block
-            int guarded = guardedPart();
             if (guest.takeInterrupt()) {
                 source = NONE;
             }
             cache.throwAwayWritten(guest.writtenAt, guest.writtenBytes);
+            // only now, as a long block that went by the interrupt's word is left without a side exit
+            int guarded = guardedPart();
             Block from = cache.find(source);
             Block next = from == null ? null : linkedBlock(from);
             if (guarded != NONE) {

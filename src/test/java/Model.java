@@ -183,9 +183,13 @@ final class Model {
     }
 
     private void enter() {
+        boolean wasLong = longOne != null;
+        boolean isInterrupted = takesInterrupt();
+        if (wasLong && isInterrupted && longOne == null) {
+            see("long block goes by the word of an interrupt");
+        }
         boolean isGuarded = longOne != null && endedByLast && part + 1 < longOne.size();
         Block expected = isGuarded ? longOne.get(part + 1) : null;
-        boolean isInterrupted = takesInterrupt();
         Block from = isInterrupted || !endedByLast || behind == null || !kept.containsValue(behind) ? null : behind;
         Block linked = from == null || way == null ? null : from.links.get(way);
         if (isGuarded) {

@@ -12,7 +12,8 @@ public final class ModelTest {
     private static final String[] WANTED = {
         "block that threw itself away", "guard passed", "interrupt that cannot be written",
         "left block thrown away by making one", "link followed", "long block goes by another part",
-        "long block goes with its running part", "long block of 2", "long block of 3", "long block of 4",
+        "long block goes by the word of an interrupt", "long block goes with its running part",
+        "long block of 2", "long block of 3", "long block of 4",
         "side exit by interrupt", "side exit by link", "side exit by look-up"
     };
 
@@ -51,6 +52,11 @@ public final class ModelTest {
     private static void poke(HotTranslator x, Model model, int address, int value) {
         CHECK.due("poke", x.poke(address, value), model.memory[address]);
         model.write(address, value);
+    }
+
+    private static void setRegister(HotTranslator x, Model model, int register, int value) {
+        CHECK.due("setRegister", x.setRegister(register, value), model.registers[register]);
+        model.registers[register] = value;
     }
 
     private static int instruction(Random random) {
@@ -97,8 +103,7 @@ public final class ModelTest {
         }
         for (int i = 0; i < 4; i++) {
             int value = random.nextInt(5) == 0 ? random.nextInt(65536) : i == 3 ? 2 * random.nextInt(129) : random.nextInt(260);
-            x.setRegister(i, value);
-            model.registers[i] = value;
+            setRegister(x, model, i, value);
         }
     }
 
@@ -114,6 +119,10 @@ public final class ModelTest {
         }
         if (kind < 24) {
             int address = random.nextInt(3) == 0 ? random.nextInt(256) : base + random.nextInt(span);
+            if (random.nextInt(4) == 0) {
+                // so that the interrupt's word often lies over the code
+                setRegister(x, model, 3, base + random.nextInt(span) + 1);
+            }
             CHECK.due("interrupt", x.interrupt(address), model.waiting);
             model.waiting = address;
             int steps = 1 + random.nextInt(60);
@@ -142,8 +151,7 @@ public final class ModelTest {
         if (kind < 36) {
             int register = random.nextInt(4);
             int value = random.nextInt(5) == 0 ? random.nextInt(65536) : random.nextInt(260);
-            CHECK.due("setRegister", x.setRegister(register, value), model.registers[register]);
-            model.registers[register] = value;
+            setRegister(x, model, register, value);
             return "setRegister(" + register + ", " + value + ")";
         }
         return set(random, x, model);

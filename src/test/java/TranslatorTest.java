@@ -40,6 +40,7 @@ public final class TranslatorTest {
         longBlockWithoutLatestLink();
         sideExits();
         sideExitsByInterrupts();
+        longBlockThatGoesByAnInterrupt();
         noSideExitAtEnds();
         longBlockThatGoesWhileItRuns();
         longBlocksThatGo();
@@ -695,6 +696,37 @@ public final class TranslatorTest {
         last.interrupt(100);
         last.run(1);
         CHECK.due("no side exit as a run begins", counts(last), "3 3 5 0 2 0 0");
+    }
+
+    /** A ring of three that was run as a long block, whose first part is left for an interrupt with its word there. */
+    private static HotTranslator interrupted(int wordAt) {
+        HotTranslator x = ring(3);
+        x.run(4);
+        x.goTo(0);
+        x.setRegister(3, wordAt + 2);
+        x.interrupt(100);
+        CHECK.due("an interrupt's word at " + wordAt, x.run(9) + " " + x.place(), "2 101");
+        return x;
+    }
+
+    private static void longBlockThatGoesByAnInterrupt() {
+        HotTranslator beside = interrupted(8);
+        CHECK.due("a word ahead of the next part", counts(beside) + " " + beside.partsOf(0), "4 4 6 0 1 1 0 3");
+        HotTranslator next = interrupted(9);
+        CHECK.due("a word over the next part", counts(next) + " " + next.partsOf(0), "4 3 6 0 1 0 1 0");
+        HotTranslator later = interrupted(21);
+        CHECK.due("a word over a later part", counts(later) + " " + later.partsOf(0), "4 3 6 0 1 0 1 0");
+        HotTranslator first = interrupted(1);
+        CHECK.due("a word over the part that ran", counts(first) + " " + first.isKept(0), "4 3 6 0 1 0 1 false");
+        HotTranslator other = ring(3);
+        other.goTo(100);
+        other.run(1);
+        other.goTo(0);
+        other.run(4);
+        other.goTo(0);
+        other.setRegister(3, 102);
+        other.interrupt(50);
+        CHECK.due("a word over another block", other.run(9) + " " + counts(other), "2 5 4 7 0 1 1 1");
     }
 
     private static void noSideExitAtEnds() {

@@ -62,6 +62,7 @@ public final class FaceTest {
         face();
         classesInside();
         text();
+        methods();
         CHECK.end();
     }
 
@@ -127,5 +128,22 @@ public final class FaceTest {
             CHECK.due("text has " + pattern, Pattern.compile(pattern).matcher(text).find(), false);
         }
         CHECK.due("one import", text.split("\nimport |^import ").length - 1, 1);
+    }
+
+    /** LANGUAGE.md, rule 11: short methods, few parameters, few classes. */
+    private static void methods() throws IOException {
+        int start = 0;
+        int line = 0;
+        for (String text : Files.readAllLines(Path.of("src/main/java/HotTranslator.java"))) {
+            line++;
+            if (text.matches("( {4}| {8})[a-z][^=;]*\\(.*\\{")) {
+                start = line;
+                CHECK.due("at most seven parameters in line " + line, text.split(",").length <= 7, true);
+            } else if (text.matches("( {4}| {8})\\}") && start > 0) {
+                CHECK.due("at most sixty lines up to line " + line, line - start < 60, true);
+                start = 0;
+            }
+        }
+        CHECK.due("at most twelve classes", HotTranslator.class.getDeclaredClasses().length < 12, true);
     }
 }

@@ -48,22 +48,6 @@ public final class FiguresTest {
         CHECK.dueThrow("at a fault", STATE, () -> x.isSameBy(1, 1));
     }
 
-    private static String all(HotTranslator x) {
-        StringBuilder told = new StringBuilder();
-        for (int i = 0; i < 256; i++) {
-            told.append(x.peek(i)).append(' ');
-        }
-        told.append(Code.registersOf(x)).append(Code.flags(x)).append(' ').append(x.place()).append(x.state());
-        told.append(x.interrupts()).append(x.waits()).append(x.outputs()).append(' ').append(x.steps()).append(' ');
-        told.append(x.made()).append(' ').append(x.blocks()).append(' ').append(x.lookUps()).append(' ');
-        told.append(x.chained()).append(' ').append(x.longBlocks()).append(' ').append(x.sideExits()).append(' ');
-        told.append(x.discarded()).append(' ').append(x.skipped()).append(' ');
-        for (int i = 0; i < x.made(); i++) {
-            told.append(x.isKept(i) ? x.startOf(i) + "/" + x.entries(i) + "/" + x.partsOf(i) + " " : "- ");
-        }
-        return told.toString();
-    }
-
     private static void sameByChangesNothing() {
         HotTranslator x = Code.with(Code.add(0, 1), Code.add(0, 1), Code.out(0), Code.store(0, 2), 200, Code.ALWAYS, Code.far(-7));
         Code.put(x, 100, Code.HALT);
@@ -72,10 +56,10 @@ public final class FiguresTest {
         Code.registers(x, 0, 3, 0, 120);
         x.run(18);
         x.interrupt(100);
-        String before = all(x);
+        String before = Told.all(x);
         for (int tier = 0; tier <= 2; tier++) {
             CHECK.due("same with an interrupt", x.isSameBy(tier, 20), true);
-            CHECK.due("nothing changes by isSameBy " + tier, all(x), before);
+            CHECK.due("nothing changes by isSameBy " + tier, Told.all(x), before);
         }
         x.run(9);
         CHECK.due("the interrupt is still taken", x.place() + " " + x.interrupts(), "101 1");

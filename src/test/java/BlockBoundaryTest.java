@@ -36,6 +36,7 @@ public final class BlockBoundaryTest {
         notEnteredWithoutAStep();
         noLinkForReturns();
         noLinkBehindAnInterrupt();
+        noPartBehindAnInterrupt();
         linksOfBothWays();
         linkOfABlockThatIsThrownAway();
         linksToTheTwelfth();
@@ -45,6 +46,7 @@ public final class BlockBoundaryTest {
         upToOneThatIsInIt();
         linkPutAheadOfTheEntry();
         sideExitOnce();
+        notFollowedByTheGuard();
         lastPartHasNoGuard();
         runsThatEndInLongBlocks();
         longBlocksGo();
@@ -192,6 +194,12 @@ public final class BlockBoundaryTest {
         x.poke(255, PLAIN);
         x.run(2);
         CHECK.due("a fault x alone without bytes", Told.block(x, x.made() - 1), "256 1 0 1 - - 0");
+        int alone = x.made() - 1;
+        x.goTo(255);
+        x.run(1);
+        CHECK.due("it is the next place", x.place() + " " + x.entries(alone), "256 1");
+        x.run(1);
+        CHECK.due("it is looked up, and not made again", x.made() - 1 + " " + x.entries(alone), alone + " 2");
     }
 
     /** "of one with the fault 'x' or 'i' those that are there up to the first byte alone for 'i'". */
@@ -246,6 +254,11 @@ public final class BlockBoundaryTest {
         x.goTo(0);
         x.run(1);
         CHECK.due("one that is kept is not made", x.made() + " " + x.discarded() + " " + x.entries(0), "8 0 2");
+        for (int i = 1; i < 8; i++) {
+            x.goTo(10 * i);
+            x.run(1);
+            CHECK.due("ahead of making one alone: " + i, x.blocks() + " " + x.discarded() + x.isKept(0) + x.entries(i), "8 0true2");
+        }
         shape(x, 80);
         CHECK.due("nine", x.blocks() + " " + x.discarded() + x.isKept(0) + x.isKept(1), "8 1falsetrue");
         x.poke(50, PLAIN);
@@ -349,6 +362,9 @@ public final class BlockBoundaryTest {
             load.setRegister(1, address);
             load.run(9);
             CHECK.due("a word loaded at " + address, load.isKept(0), true);
+            HotTranslator back = writer(tier, Code.RETURN);
+            back.setRegister(3, address);
+            CHECK.due("a return by the word at " + address, back.run(1) + " " + back.isKept(0), "1 true");
         }
         HotTranslator up = writer(tier, Code.FILL, Code.HALT);
         Code.registers(up, 7, 90, 10);
@@ -537,6 +553,24 @@ public final class BlockBoundaryTest {
         CHECK.due("not followed, also if it leads to the same place", Told.counts(x) + "; " + Told.block(x, 0), "2 2 6 0 0 0 0; 0 1 2 3 1 - 0");
     }
 
+    /** The same in a long block; "with no interrupt that is taken": not even one to the place of the next part. */
+    private static void noPartBehindAnInterrupt() {
+        HotTranslator same = ring(2, 3);
+        same.run(4);
+        same.goTo(0);
+        same.setRegister(3, 200);
+        same.interrupt(10);
+        CHECK.due("to the next part", same.run(2) + " " + same.place() + " " + same.interrupts(), "2 20 1");
+        CHECK.due("a side exit, and a look-up", Told.counts(same) + "; " + Told.block(same, 0) + "; " + Told.block(same, 1), "3 3 6 0 2 1 0; 0 1 2 3 1 - 3; 10 1 2 2 2 - 3");
+        HotTranslator other = ring(2, 3);
+        other.run(4);
+        other.goTo(0);
+        other.setRegister(3, 200);
+        other.interrupt(100);
+        CHECK.due("to another place", other.run(9) + " " + other.place() + " " + other.interrupts(), "2 101 1");
+        CHECK.due("no link is put", Told.counts(other) + "; " + Told.block(other, 0), "4 4 6 0 1 1 0; 0 1 2 3 1 - 3");
+    }
+
     /** "The ways are that by a jump that is taken or a call, and that by going on behind": with both to one place. */
     private static void linksOfBothWays() {
         HotTranslator x = at(1, 0, Code.compare(0, 1), Code.IF_ZERO, 0, Code.HALT);
@@ -625,6 +659,10 @@ public final class BlockBoundaryTest {
         x.setHot(50);
         x.run(2);
         CHECK.due("it stays when it is not hot", x.longBlocks() + " " + x.partsOf(0), "1 2");
+        int chained = x.chained();
+        x.goTo(0);
+        x.run(2);
+        CHECK.due("and is run", x.chained() - chained + " " + x.entries(1), "0 22");
         HotTranslator late = at(2, 0, PLAIN, Code.HALT);
         late.setHot(2);
         for (int i = 0; i < 5; i++) {
@@ -707,6 +745,39 @@ public final class BlockBoundaryTest {
         x.goTo(0);
         x.run(9);
         CHECK.due("another one, by the link", Told.counts(x) + " " + x.partsOf(3), "4 4 8 1 3 2 0 3");
+    }
+
+    /** "without the link being followed": a link that the guard lets through is not the one that was followed last. */
+    private static void notFollowedByTheGuard() {
+        for (int tier = 1; tier <= 2; tier++) {
+            HotTranslator x = at(2, 0, Code.ALWAYS, 8);
+            Code.put(x, 10, Code.compare(0, 1), Code.IF_ZERO, 7, Code.HALT);
+            Code.put(x, 20, Code.ALWAYS, 18);
+            Code.put(x, 30, Code.ALWAYS, Code.far(-22));
+            x.setHot(2);
+            for (int i = 0; i < 2; i++) {
+                x.goTo(0);
+                x.run(9);
+            }
+            CHECK.due("a long block of 0, 10, 20, 40", Told.counts(x) + " " + x.partsOf(0), "4 4 5 0 1 0 0 4");
+            x.setRegister(0, 1);
+            x.goTo(10);
+            x.run(9);
+            CHECK.due("the way behind, its link put last", Told.counts(x) + "; " + Told.block(x, 1), "5 5 7 0 2 1 0; 10 2 3 3 2 4 3");
+            x.setRegister(0, 0);
+            x.setTier(tier);
+            x.goTo(0);
+            x.run(9);
+            CHECK.due("the other way by tier " + tier, Told.counts(x) + " " + x.entries(2), "5 5 8 " + (tier == 1 ? 3 : 0) + " 2 1 0 3");
+            x.setTier(2);
+            for (int i = 0; i < 2; i++) {
+                x.goTo(30);
+                x.run(1);
+                x.goTo(30);
+                x.run(2);
+            }
+            CHECK.due("from 30 by the one used last, tier " + tier, x.partsOf(5), tier == 1 ? 4 : 3);
+        }
     }
 
     /** "behind each of its blocks but the last one": leaving the last one is no side exit, wherever it leads. */

@@ -29,6 +29,7 @@ public final class GuestBoundaryTest {
         byEachTier(GuestBoundaryTest::flagZero);
         byEachTier(GuestBoundaryTest::flagSign);
         byEachTier(GuestBoundaryTest::flagCarry);
+        byEachTier(GuestBoundaryTest::flagsStay);
         byEachTier(GuestBoundaryTest::nothingIsDoneAtFaults);
         byEachTier(GuestBoundaryTest::fillStaysDone);
         byEachTier(GuestBoundaryTest::stepsOfInstructions);
@@ -427,6 +428,29 @@ public final class GuestBoundaryTest {
         flags(tier, Code.and(0, 1), 65535, 65535, "s");
     }
 
+    /** "Ops 3 to 6 set all flags": the others none, whatever they make of a register. */
+    private static void flagsStay(int tier) {
+        int[][] codes = {{Code.HALT}, {Code.copy(1, 0)}, {Code.constant(0), 0, 0}, {Code.constant(0), 0, 128}, {Code.load(0, 1), 0},
+            {Code.store(0, 1), 0}, {Code.ALWAYS, 0}, {Code.IF_ZERO, 0}, {Code.IF_NOT_ZERO, 0}, {Code.CALL, 0}, {Code.RETURN},
+            {Code.divide(0, 1)}, {Code.FILL}, {Code.out(0)}};
+        int[][] compared = {{1, 0}, {5, 5}, {0, 1}, {0, 65535}, {65535, 0}};
+        String[] set = {"", "z", "sc", "c", "s"};
+        int[][] values = {{0, 200, 0, 202}, {65535, 1, 2, 202}, {7, 3, 1, 202}};
+        for (int[] code : codes) {
+            for (int i = 0; i < compared.length; i++) {
+                for (int[] registers : values) {
+                    HotTranslator x = at(tier, 100, Code.compare(2, 3));
+                    Code.put(x, 1, 0, 200, 5, 0);
+                    Code.put(x, 101, code);
+                    Code.registers(x, 0, 0, compared[i][0], compared[i][1]);
+                    x.run(1);
+                    Code.registers(x, registers);
+                    CHECK.due("op " + (code[0] >> 4) + " leaves the flags", x.run(1) + Code.flags(x), "1" + set[i]);
+                }
+            }
+        }
+    }
+
     /** "With a fault, nothing of the instruction is done, and the place is that of it", also in the middle of a block. */
     private static void nothingIsDoneAtFaults(int tier) {
         int[][] faulty = {{Code.divide(0, 1)}, {Code.load(0, 3), 0}, {Code.store(0, 3), 0}, {Code.CALL, 0}, {Code.RETURN}, {240}};
@@ -613,6 +637,14 @@ public final class GuestBoundaryTest {
         later.interrupt(40);
         CHECK.due("not behind the next instruction", later.run(3) + " " + interrupts(later), "3 114 0true 200");
         CHECK.due("but behind the next jump", later.run(9) + " " + interrupts(later), "3 42 1false 198");
+        HotTranslator faulty = jumping(tier);
+        faulty.poke(110, 240);
+        faulty.setRegister(3, 1);
+        faulty.interrupt(40);
+        CHECK.due("also behind a fault", faulty.run(9) + " " + interrupts(faulty) + faulty.fault(), "1 110 0true 1i");
+        faulty.goTo(100);
+        faulty.setRegister(3, 200);
+        CHECK.due("up to a jump with room", faulty.run(2) + " " + interrupts(faulty), "2 41 1false 198");
         HotTranslator between = jumping(tier);
         between.setRegister(3, 1);
         between.interrupt(40);

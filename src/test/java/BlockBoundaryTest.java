@@ -323,6 +323,16 @@ public final class BlockBoundaryTest {
         shape(x, 0);
         CHECK.due("one", x.flush() + " " + x.discarded() + " " + x.blocks(), "1 1 0");
         CHECK.due("none is left", x.flush() + " " + x.discarded(), "0 1");
+        // 0, 10, 0 are looked up, then two links are followed, up to the third entry of 0, and one behind the long block
+        HotTranslator figures = at(2, 0, Code.compare(0, 1), Code.compare(0, 1), Code.IF_ZERO, 6, Code.HALT);
+        Code.put(figures, 10, Code.ALWAYS, Code.far(-12));
+        figures.setHot(3);
+        figures.run(16);
+        figures.setRegister(0, 1);
+        figures.run(9);
+        CHECK.due("figures ahead of it", Told.counts(figures) + " " + figures.skipped() + " " + figures.steps(), "3 3 5 3 1 1 0 5 20");
+        figures.flush();
+        CHECK.due("they stay", Told.counts(figures) + " " + figures.skipped() + " " + figures.steps(), "3 0 5 3 1 1 3 5 20");
     }
 
     /** A block of four bytes at 100, made by tier 1, and code at 0 that writes by the tier given. */
@@ -912,6 +922,16 @@ public final class BlockBoundaryTest {
             Code.put(x, 1, Code.IF_CARRY, 20);
             CHECK.due("same behind a poke", x.isSameBy(tier, 1) + " " + x.isSameBy(tier, 2) + " " + x.isSameBy(tier, 200), "true true true");
             CHECK.due("nothing changes by that", Told.counts(x) + " " + x.place() + " " + x.steps(), "0 0 0 0 0 0 0 0 0");
+        }
+        for (int tier = 0; tier <= 2; tier++) {
+            HotTranslator set = ring(2, 2);
+            set.setCache(3);
+            set.setHot(7);
+            set.setTier(tier);
+            for (int other = 0; other <= 2; other++) {
+                CHECK.due("by tier " + other, set.isSameBy(other, 200), true);
+            }
+            CHECK.due("the settings stay", set.setTier(1) + " " + set.setCache(1) + " " + set.setHot(2), tier + " 3 7");
         }
     }
 

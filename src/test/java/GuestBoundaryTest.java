@@ -716,6 +716,20 @@ public final class GuestBoundaryTest {
         CHECK.due("run again", x.run(9) + "" + x.state() + x.place(), "1h51");
         CHECK.due("goTo from the halt", x.goTo(255) + "" + x.state(), "51r");
         CHECK.due("at the last address", x.run(9) + "" + x.state() + x.place(), "1h256");
+        HotTranslator stays = at(tier, 100, 240);
+        stays.run(1);
+        HotTranslator halted = at(tier, 100, Code.HALT, Code.HALT);
+        halted.run(1);
+        for (HotTranslator y : new HotTranslator[] {stays, halted}) {
+            y.poke(100, PLAIN);
+            y.poke(101, PLAIN);
+            y.setRegister(3, 200);
+            y.interrupt(40);
+            y.flush();
+            y.setTier(1);
+        }
+        CHECK.due("a fault stays up to goTo", stays.state() + " " + stays.fault() + stays.place(), "f i100");
+        CHECK.due("a halt stays up to goTo", halted.state() + " " + halted.place(), "h 101");
     }
 
     /** "An object is used for at most 512 calls": as many steps and outputs as these can make. */
